@@ -8,6 +8,18 @@ import java.util.TreeSet;
 /** The class shows the document's face and no more. */
 public final class FaceTest {
     public static void main(String[] args) {
+        Check.sentence("the class is public and final", FaceTest::publicAndFinal);
+        Check.sentence("the public face", FaceTest::membersOfTheFace);
+        Check.end();
+    }
+
+    private static void publicAndFinal() {
+        int modifiers = PileMarker.class.getModifiers();
+        Check.due("public", "" + Modifier.isPublic(modifiers), "true");
+        Check.due("final", "" + Modifier.isFinal(modifiers), "true");
+    }
+
+    private static void membersOfTheFace() {
         Set<String> want = new TreeSet<>(Set.of(
             "public static final int PileMarker.NONE",
             "public PileMarker()",
@@ -38,9 +50,6 @@ public final class FaceTest {
                 got.add(method.toString());
             }
         }
-        boolean sealed = Modifier.isPublic(PileMarker.class.getModifiers()) && Modifier.isFinal(PileMarker.class.getModifiers());
-        Check.dueYes("the class is public and final", true, sealed);
-        Check.dueYes("the face " + got, true, got.equals(want));
-        Check.end();
+        Check.due("the face", got.toString(), want.toString());
     }
 }

@@ -1,64 +1,64 @@
 public final class Promise08MarkTest {
+    private static final int NONE = PileMarker.NONE;
+
     public static void main(String[] args) {
-        arguments();
-        anyNumberOfSteps();
+        new Steps("mark").testAll();
+        Check.sentence("so many steps, then a change, in a chain", Promise08MarkTest::chains);
+        Check.sentence("so many steps, then all that was marked is let go", Promise08MarkTest::letGo);
+        Check.sentence("as many steps as a cycle can have", Promise08MarkTest::mostSteps);
         Check.end();
     }
 
-    private static void arguments() {
-        PileMarker x = new PileMarker();
-        x.make(1);
-        x.make(0);
-        x.root(0, 0);
-        x.set(0, 0, 1);
-        refuseAll(x);
-        Check.dueDone("mark(0) without a cycle", () -> x.mark(0));
-        Check.dueDone("mark(5000) without a cycle", () -> x.mark(5000));
-        x.root(0, PileMarker.NONE);
-        x.begin();
-        refuseAll(x);
-        Check.dueDone("mark(0)", () -> x.mark(0));
-        Check.dueDone("mark(5000)", () -> x.mark(5000));
-        Check.dueDone("mark(5000) with nothing more to do", () -> x.mark(5000));
-        Check.due("finish(): nothing marked without a cycle", 0, x::finish);
-        refuseAll(x);
-        String before = Check.seen(x);
-        x.mark(5000);
-        Check.dueYes("mark(5000) when finished does nothing", true, before.equals(Check.seen(x)));
-    }
-
-    private static void refuseAll(PileMarker x) {
-        int[] wrong = {-1, 5001, Integer.MAX_VALUE, Integer.MIN_VALUE};
-        for (int n : wrong) {
-            Check.refused(x, "mark(" + n + ")", IllegalArgumentException.class, () -> { x.mark(n); return 0; });
-        }
-    }
-
-    /** A chain with changes behind the marker's back, after each number of steps. */
-    private static void anyNumberOfSteps() {
+    /** Changes behind the marker's back, after each number of steps. */
+    private static void chains() {
         for (int steps = 0; steps <= 60; steps++) {
-            PileMarker x = new PileMarker();
-            x.pile(1 + steps % 3);
-            for (int k = 0; k < 10; k++) {
-                x.make(2);
-            }
+            Run run = Heaps.withObjects(10, 2);
+            run.pile(1 + steps % 3);
             for (int k = 0; k < 8; k++) {
-                x.set(k, 0, k + 1);
+                run.set(k, 0, k + 1);
             }
-            x.root(steps % 16, 0);
-            x.begin();
-            x.mark(steps);
+            run.root(steps % 16, 0);
+            run.begin().isDone();
+            run.mark(steps).isDone();
             // 8 hangs on 0 now, which may have been gone through already.
-            x.set(0, 1, 8);
-            x.set(7, 0, PileMarker.NONE);
-            x.set(8, 1, 9);
-            x.mark(steps);
-            Check.due("finish() after " + steps + " steps", -1, x::finish);
-            Check.due("lost() after " + steps + " steps", 0, x::lost);
-            Check.due("count(2)", 10, () -> x.count(2));
-            x.begin();
-            x.mark(steps);
-            Check.due("finish() of the quiet cycle", 10, x::finish);
+            run.set(0, 1, 8);
+            run.set(7, 0, NONE);
+            run.set(8, 1, 9);
+            run.mark(steps).isDone();
+            run.finish().isNothing();
+            run.lost().is(0);
+            run.count(2).is(10);
+            run.begin().isDone();
+            run.mark(steps).isDone();
+            run.finish().is(10);
         }
+    }
+
+    private static void letGo() {
+        for (int steps = 0; steps <= 30; steps++) {
+            Run run = Heaps.smallInCycle();
+            run.mark(steps).isDone();
+            run.root(0, NONE).is(0);
+            run.finish().isNothing();
+            run.lost().is(0);
+            run.begin().isDone();
+            run.mark(steps).isDone();
+            run.finish().is(0);
+            run.marked(0).isNo();
+        }
+    }
+
+    private static void mostSteps() {
+        Run run = Heaps.withObjects(100, 1);
+        for (int k = 1; k < 100; k++) {
+            run.set(k, 0, k - 1);
+        }
+        run.root(0, 99);
+        run.begin().isDone();
+        while (run.callsLeft() > 2) {
+            run.mark(5000).isDone();
+        }
+        run.finish().is(100);
+        run.lost().is(0);
     }
 }

@@ -1,67 +1,91 @@
 public final class Promise09PrecleanTest {
+    private static final int NONE = PileMarker.NONE;
+
     public static void main(String[] args) {
-        arguments();
-        anyNumberOfSteps();
+        new Steps("preclean").testAll();
+        Check.sentence("so many steps of going over what was changed", Promise09PrecleanTest::changesBetween);
+        Check.sentence("gone over, then changed again", Promise09PrecleanTest::changedAgain);
+        Check.sentence("gone over before it is marked", Promise09PrecleanTest::goneOverBeforeMarked);
+        Check.sentence("all of more objects changed than are remembered", Promise09PrecleanTest::manyChanged);
         Check.end();
     }
 
-    private static void arguments() {
-        PileMarker x = new PileMarker();
-        x.make(1);
-        x.make(0);
-        x.root(0, 0);
-        refuseAll(x);
-        Check.dueDone("preclean(0) without a cycle", () -> x.preclean(0));
-        Check.dueDone("preclean(5000) without a cycle", () -> x.preclean(5000));
-        x.begin();
-        refuseAll(x);
-        Check.dueDone("preclean(0)", () -> x.preclean(0));
-        Check.dueDone("preclean(5000)", () -> x.preclean(5000));
-        Check.due("finish(): a preclean() is no change", 1, x::finish);
-        refuseAll(x);
-        String before = Check.seen(x);
-        x.preclean(5000);
-        Check.dueYes("preclean(5000) when finished does nothing", true, before.equals(Check.seen(x)));
-    }
-
-    private static void refuseAll(PileMarker x) {
-        int[] wrong = {-1, 5001, Integer.MAX_VALUE, Integer.MIN_VALUE};
-        for (int n : wrong) {
-            Check.refused(x, "preclean(" + n + ")", IllegalArgumentException.class, () -> { x.preclean(n); return 0; });
+    private static void changesBetween() {
+        for (int first = 0; first <= 24; first++) {
+            for (int second = 0; second <= 12; second++) {
+                changesBetween(first, second);
+            }
         }
     }
 
-    /** What was gone over once can change again, before and after its object is marked. */
-    private static void anyNumberOfSteps() {
-        for (int first = 0; first <= 24; first++) {
-            for (int second = 0; second <= 12; second++) {
-                PileMarker x = new PileMarker();
-                x.pile(1);
-                for (int k = 0; k < 6; k++) {
-                    x.make(3);
-                }
-                x.root(0, 0);
-                x.set(0, 0, 1);
-                x.set(1, 0, 2);
-                x.begin();
-                x.mark(first);
-                x.set(2, 0, 3);
-                x.set(0, 1, 2);
-                x.set(1, 0, PileMarker.NONE);
-                x.preclean(second);
-                x.set(2, 0, PileMarker.NONE);
-                x.set(0, 2, 3);
-                x.set(3, 0, 4);
-                x.preclean(second);
-                x.mark(second);
-                x.set(3, 0, PileMarker.NONE);
-                x.set(1, 1, 4);
-                x.set(4, 2, 5);
-                x.preclean(first);
-                Check.due("finish()", -1, x::finish);
-                Check.due("lost() after " + first + " and " + second, 0, x::lost);
-                Check.due("count(2)", 6, () -> x.count(2));
+    private static void changesBetween(int first, int second) {
+        Run run = Heaps.withObjects(6, 3);
+        run.pile(1);
+        run.root(0, 0);
+        run.set(0, 0, 1);
+        run.set(1, 0, 2);
+        run.begin().isDone();
+        run.mark(first).isDone();
+        run.set(2, 0, 3);
+        run.set(0, 1, 2);
+        run.set(1, 0, NONE);
+        run.preclean(second).isDone();
+        run.set(2, 0, NONE);
+        run.set(0, 2, 3);
+        run.set(3, 0, 4);
+        run.preclean(second).isDone();
+        run.mark(second).isDone();
+        run.set(3, 0, NONE);
+        run.set(1, 1, 4);
+        run.set(4, 2, 5);
+        run.preclean(first).isDone();
+        run.finish().isNothing();
+        run.lost().is(0);
+        run.count(2).is(6);
+    }
+
+    private static void changedAgain() {
+        for (int steps = 0; steps <= 12; steps++) {
+            Run run = Heaps.smallInCycle();
+            run.mark(5000).isDone();
+            run.set(0, 1, 1).isNothing();
+            run.preclean(5000).isDone();
+            run.set(0, 1, 2).is(1);
+            run.preclean(steps).isDone();
+            run.finish().isNothing();
+            run.lost().is(0);
+            run.count(2).is(3);
+        }
+    }
+
+    private static void goneOverBeforeMarked() {
+        Run run = Heaps.smallInCycle();
+        run.set(1, 0, 2).isNothing();
+        run.preclean(5000).isDone();
+        run.mark(5000).isDone();
+        run.finish().isNothing();
+        run.lost().is(0);
+        run.count(2).is(3);
+    }
+
+    /** Each of 60 marked objects gets a new one: more than any pile of 1 .. 8 has place for. */
+    private static void manyChanged() {
+        for (int n = 1; n <= 8; n++) {
+            Run run = Heaps.withObjects(120, 2);
+            run.pile(n);
+            run.root(0, 59);
+            for (int k = 1; k < 60; k++) {
+                run.set(k, 0, k - 1);
             }
+            run.begin().isDone();
+            run.mark(5000).isDone();
+            for (int k = 0; k < 60; k++) {
+                run.set(k, 1, 119 - k);
+            }
+            run.preclean(n * 9).isDone();
+            run.finish().isNothing();
+            run.lost().is(0);
+            run.count(2).is(120);
         }
     }
 }
