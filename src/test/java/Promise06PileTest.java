@@ -14,6 +14,8 @@ public final class Promise06PileTest {
         Check.sentence("no change: the marks still hold", Promise06PileTest::marksHold);
         Check.sentence("at most n: every n marks all, however wide", Promise06PileTest::everyPile);
         Check.sentence("at most n: as many as n, one less and one more", Promise06PileTest::justFull);
+        Check.sentence("at most n: one more again and again, with lower numbers", () -> oneTooMany(false));
+        Check.sentence("at most n: one more again and again, up to the last", () -> oneTooMany(true));
         Check.sentence("at most n: less than in the cycle before", Promise06PileTest::smallerThanBefore);
         Check.end();
     }
@@ -107,6 +109,45 @@ public final class Promise06PileTest {
                 run.lost().is(0);
             }
         }
+    }
+
+    private static void oneTooMany(boolean upwards) {
+        for (int n = 1; n <= 15; n++) {
+            oneTooMany(n, 5, upwards);
+        }
+    }
+
+    /**
+     * Each level has n objects without fields that are kept, and one more that is not: it alone
+     * has the next level. The last of all has object 0. Two more are not reached, and lie where
+     * the marker comes by when it looks for those that it did not remember.
+     */
+    private static void oneTooMany(int n, int levels, boolean upwards) {
+        int objects = 3 + levels * (n + 1);
+        Run run = Heaps.withObjects(objects, n + 1);
+        run.pile(n);
+        int unreached = upwards ? 1 : objects - 2;
+        run.set(unreached, 0, unreached + 1);
+        int first = upwards ? 3 : 1;
+        int parent = PileMarker.NONE;
+        for (int level = 0; level < levels; level++) {
+            int lowest = first + (upwards ? level : levels - 1 - level) * (n + 1);
+            for (int i = 0; i <= n; i++) {
+                if (level == 0) {
+                    run.root(i, lowest + i);
+                } else {
+                    run.set(parent, i, lowest + i);
+                }
+            }
+            parent = lowest + n;
+        }
+        run.set(parent, 0, 0);
+        run.begin().isDone();
+        run.mark(16).isDone();
+        run.finish().is(objects - 2);
+        run.marked(0).isYes();
+        run.marked(unreached + 1).isNo();
+        run.lost().is(0);
     }
 
     private static void smallerThanBefore() {

@@ -6,6 +6,10 @@ public final class Promise09PrecleanTest {
         Check.sentence("so many steps of going over what was changed", Promise09PrecleanTest::changesBetween);
         Check.sentence("gone over, then changed again", Promise09PrecleanTest::changedAgain);
         Check.sentence("gone over before it is marked", Promise09PrecleanTest::goneOverBeforeMarked);
+        Check.sentence("changed: the first object", () -> oneChanged(0, 200));
+        Check.sentence("changed: the last object", () -> oneChanged(200, 0));
+        Check.sentence("changed: the last of 400 objects", Promise09PrecleanTest::lastOfFull);
+        Check.sentence("changed: one that was made in the cycle", Promise09PrecleanTest::madeInCycle);
         Check.sentence("all of more objects changed than are remembered", Promise09PrecleanTest::manyChanged);
         Check.end();
     }
@@ -66,6 +70,48 @@ public final class Promise09PrecleanTest {
         run.finish().isNothing();
         run.lost().is(0);
         run.count(2).is(3);
+    }
+
+    /** Without preclean(), with too few steps, and with enough. */
+    private static void oneChanged(int k, int other) {
+        for (int steps = 0; steps <= 400; steps += 100) {
+            Run run = Heaps.withObjects(201, 1);
+            run.root(0, k);
+            run.begin().isDone();
+            run.mark(5000).isDone();
+            run.set(k, 0, other).isNothing();
+            run.preclean(steps).isDone();
+            run.finish().isNothing();
+            run.lost().is(0);
+            run.count(2).is(2);
+        }
+    }
+
+    private static void lastOfFull() {
+        Run run = Heaps.full(20);
+        run.root(15, 399);
+        run.begin().isDone();
+        run.mark(5000).isDone();
+        run.set(399, 19, 398).isNothing();
+        run.preclean(5000).isDone();
+        run.set(398, 19, 0).isNothing();
+        run.finish().isNothing();
+        run.lost().is(0);
+        run.count(2).is(3);
+    }
+
+    private static void madeInCycle() {
+        Run run = Heaps.smallInCycle();
+        run.mark(5000).isDone();
+        run.preclean(5000).isDone();
+        run.make(1).is(3);
+        run.set(0, 1, 3).isNothing();
+        run.preclean(5000).isDone();
+        run.mark(5000).isDone();
+        run.set(3, 0, 2).isNothing();
+        run.finish().isNothing();
+        run.lost().is(0);
+        run.count(2).is(4);
     }
 
     /** Each of 60 marked objects gets a new one: more than any pile of 1 .. 8 has place for. */
